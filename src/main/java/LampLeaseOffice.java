@@ -532,7 +532,6 @@ public final class LampLeaseOffice {
             }
             int ship = count;
             count++;
-            // The row may still hold a ship whose adding was undone.
             coins[ship] = FIRST_COINS;
             fines[ship] = 0;
             darkHours[ship] = 0;
@@ -618,7 +617,6 @@ public final class LampLeaseOffice {
             }
             int lamp = count;
             count++;
-            // The row may still hold a lamp whose adding was undone.
             levels[lamp] = level;
             lessees[lamp] = NOTHING;
             endHours[lamp] = 0;

@@ -1,3 +1,5 @@
+import java.lang.reflect.Field;
+
 /** For each promise of the document: ordinary inputs, the edges, and wrong inputs. */
 final class PromisesTest {
     private static final String INDEX = "IndexOutOfBoundsException";
@@ -8,7 +10,7 @@ final class PromisesTest {
     private static final String ARITHMETIC = "ArithmeticException";
     private static final int[] NO_INDICES = {-1, 2, 6, 8, Integer.MIN_VALUE, Integer.MAX_VALUE};
 
-    public static void main(String[] args) {
+    public static void main(String[] args) throws ReflectiveOperationException {
         promise1NewObject();
         promise2AddShip();
         promise3AddLamp();
@@ -38,15 +40,18 @@ final class PromisesTest {
         promise39LampByEnd();
         promise40And41Means();
         promise42Consistent();
+        promise42Inconsistent();
         promise43Feed();
         promise44RunCommands();
         promise44EveryCommand();
+        promise44NothingOfAnEarlierText();
         promise45ErrorPosition();
         promise46And47Failures();
         promise47Reasons();
         promise48And49Output();
         promise50And51Undo();
         promise51UndoOfEachCall();
+        promise51UndoOfRows();
         promise51WhatUndoLeaves();
         promise52And53SaveAndRestore();
         Check.finish();
@@ -665,6 +670,48 @@ final class PromisesTest {
         }
     }
 
+    /** No call leads to a state that is not consistent, so this test breaks one itself. */
+    private static void promise42Inconsistent() throws ReflectiveOperationException {
+        LampLeaseOffice coins = office(2, 1);
+        putInt(inside(coins, "state"), "officeCoins", 1);
+        Check.same("42 a coin too many", false, coins.isConsistent());
+        LampLeaseOffice requests = office(2, 1);
+        requests.lease(0, 0, 1);
+        requests.requestRenewal(0, 1);
+        Check.same("42 a request", true, requests.isConsistent());
+        lampRow(requests, "lessees")[0] = -1;
+        Check.same("42 a request without a lease", false, requests.isConsistent());
+        LampLeaseOffice shares = office(2, 1);
+        shares.lease(0, 0, 1);
+        shares.addOil(10);
+        Check.same("42 shares", true, shares.isConsistent());
+        lampRow(shares, "lessees")[0] = 5;
+        Check.same("42 the demand of no ship", false, shares.isConsistent());
+        LampLeaseOffice bright = office(2, 1);
+        bright.lease(0, 0, 1);
+        bright.addOil(10);
+        lampRow(bright, "levels")[0] = 4;
+        Check.same("42 a lamp that one way does not count", false, bright.isConsistent());
+    }
+
+    private static int[] lampRow(LampLeaseOffice office, String name)
+            throws ReflectiveOperationException {
+        return (int[]) inside(inside(inside(office, "state"), "lamps"), name);
+    }
+
+    private static Object inside(Object holder, String name) throws ReflectiveOperationException {
+        Field field = holder.getClass().getDeclaredField(name);
+        field.setAccessible(true);
+        return field.get(holder);
+    }
+
+    private static void putInt(Object holder, String name, int number)
+            throws ReflectiveOperationException {
+        Field field = holder.getClass().getDeclaredField(name);
+        field.setAccessible(true);
+        field.setInt(holder, number);
+    }
+
     private static void promise43Feed() {
         LampLeaseOffice office = new LampLeaseOffice();
         char[] signs = {'x', 0, '\uffff', ';', ' ', '\u20ac'};
@@ -722,6 +769,25 @@ final class PromisesTest {
         Check.same("44 dropped", 1, run(six, "drop 7"));
     }
 
+    private static void promise44NothingOfAnEarlierText() {
+        LampLeaseOffice office = new LampLeaseOffice();
+        run(office, "ship");
+        Check.same("44 two letters", ARGUMENT, run(office, "sh"));
+        Check.same("45 two letters", 2, office.errorPosition());
+        run(office, "ship");
+        Check.same("44 three letters", ARGUMENT, run(office, "shi"));
+        Check.same("45 three letters", 3, office.errorPosition());
+        run(office, "wait 23;ship");
+        Check.same("44 without a number", 1, run(office, "wait"));
+        Check.same("44 one hour more", 24, office.hour());
+        run(office, "wait 16;ship");
+        Check.same("44 one digit", 1, run(office, "wait 2"));
+        Check.same("44 two hours more", 42, office.hour());
+        run(office, "wait 1");
+        Check.same("44 no digit", ARGUMENT, run(office, "wait "));
+        Check.same("45 no digit", 5, office.errorPosition());
+    }
+
     private static void dueError(int position, String text) {
         LampLeaseOffice office = office(6, 1, 1, 1, 1, 1, 1, 1, 1);
         Check.same("45 " + text, ARGUMENT, run(office, text));
@@ -757,14 +823,21 @@ final class PromisesTest {
         dueError(4, "oil -1");
         dueError(7, "oil 1234");
         dueError(6, "oil 12 ");
+        dueError(5, "lease");
+        dueError(5, "lease;ship");
+        dueError(7, "lease 1");
         dueError(7, "lease 12 1 1");
         dueError(9, "lease 1 12 1");
         dueError(9, "lease 1 1");
         dueError(10, "lease 1 1 ");
         dueError(12, "lease 1 1 123");
+        dueError(5, "renew");
+        dueError(5, "renew;ship");
         dueError(7, "renew 1");
         dueError(7, "renew 12 1");
         dueError(10, "renew 1 123");
+        dueError(4, "drop");
+        dueError(4, "drop;ship");
         dueError(5, "drop ");
         dueError(6, "drop 12");
         dueError(5, "wait ");
@@ -927,6 +1000,45 @@ final class PromisesTest {
         Check.same("51 an added ship", 1, office.shipCount());
         Check.same("51 the index is free again", 1, office.addShip());
         Check.same("51 new coins", 100, office.coins(1));
+    }
+
+    private static void promise51UndoOfRows() {
+        LampLeaseOffice office = office(1, 1, 2);
+        office.addOil(1);
+        office.lease(0, 0, 5);
+        office.lease(0, 1, 5);
+        office.requestRenewal(1, 4);
+        office.requestRenewal(0, 6);
+        office.giveUp(1);
+        office.undo();
+        Check.same("51 the first request", 1, office.requestedLamp(0));
+        Check.same("51 its hours", 4, office.requestedHours(0));
+        Check.same("51 the second request", 0, office.requestedLamp(1));
+        Check.same("51 the hours of the second", 6, office.requestedHours(1));
+        office.passHours(1);
+        Check.same("22 bright", true, office.wasBright(0));
+        office.passHours(1);
+        Check.same("22 dark", false, office.wasBright(0));
+        office.undo();
+        Check.same("51 bright again", true, office.wasBright(0));
+        office.undo();
+        Check.same("51 dark again", false, office.wasBright(0));
+        office.addLamp(1);
+        office.save();
+        office.undo();
+        office.addLamp(3);
+        office.restore();
+        Check.same("53 the saved level", 1, office.level(2));
+        LampLeaseOffice fined = office(0, 1);
+        fined.addShip();
+        fined.lease(0, 0, 1);
+        fined.passHours(1);
+        for (int call = 0; call < 3; call++) {
+            fined.undo();
+        }
+        fined.addShip();
+        Check.same("51 a new ship has paid nothing", 0, fined.finesPaid(0) + fined.darkHours(0));
+        Check.same("51 a new ship has all its coins", 100, fined.coins(0));
     }
 
     private static void promise51WhatUndoLeaves() {
