@@ -546,6 +546,19 @@ final class PromisesTest {
         even.addOil(1);
         dueShares("nothing left", even, 1, 1, 1);
         Check.same("31 only computed", 3, even.oil());
+        LampLeaseOffice undone = office(2, 1, 1, 3);
+        undone.lease(0, 0, 5);
+        undone.lease(1, 1, 5);
+        undone.addOil(3);
+        undone.addShip();
+        undone.lease(2, 2, 5);
+        undone.addOil(1);
+        // 4 / 5, 4 / 5 and 12 / 5: the remainders are 4, 4 and 2.
+        dueShares("a third ship", undone, 1, 1, 2);
+        undone.undo();
+        undone.undo();
+        undone.undo();
+        dueShares("the third ship is undone", undone, 2, 1);
         LampLeaseOffice two = office(2, 1);
         for (int wrong : NO_INDICES) {
             Check.due("31 no ship", INDEX, () -> two.share(wrong));
