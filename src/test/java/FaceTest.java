@@ -19,6 +19,7 @@ final class FaceTest {
                 Modifier.isPublic(office.getModifiers()) && Modifier.isFinal(office.getModifiers()));
         Check.same("the face", new TreeSet<>(documentFace()).toString(), builtFace().toString());
         Check.same("the other members", "[]", otherVisibleMembers().toString());
+        Check.same("private methods with a public name", "[]", privateNamesakes().toString());
         Check.finish();
     }
 
@@ -80,5 +81,23 @@ final class FaceTest {
             }
         }
         return others;
+    }
+
+    private static List<String> privateNamesakes() {
+        TreeSet<String> names = new TreeSet<>();
+        for (Method method : LampLeaseOffice.class.getMethods()) {
+            names.add(method.getName());
+        }
+        List<Class<?>> classes = new ArrayList<>(List.of(LampLeaseOffice.class));
+        classes.addAll(List.of(LampLeaseOffice.class.getDeclaredClasses()));
+        List<String> namesakes = new ArrayList<>();
+        for (Class<?> inside : classes) {
+            for (Method method : inside.getDeclaredMethods()) {
+                if (Modifier.isPrivate(method.getModifiers()) && names.contains(method.getName())) {
+                    namesakes.add(inside.getSimpleName() + "." + method.getName());
+                }
+            }
+        }
+        return namesakes;
     }
 }

@@ -5,7 +5,10 @@ import java.util.NoSuchElementException;
 import java.util.regex.Matcher;
 import java.util.regex.Pattern;
 
-/** The document once more, written in another way than the class: copied lists, sorting, all subsets, a pattern. */
+/**
+ * The document once more, written in another way than the class: copied lists, sorting, all
+ * subsets, a pattern.
+ */
 final class Model {
     record Ship(int coins, int fines, int darkHours) {
     }
@@ -28,7 +31,7 @@ final class Model {
         }
     }
 
-    private static final Pattern TEXT = Pattern.compile("C(;C)*".replace("C",
+    static final Pattern TEXT = Pattern.compile("C(;C)*".replace("C",
             "(ship|lamp \\d|oil \\d{1,3}|lease \\d \\d \\d{1,2}|renew \\d \\d{1,2}|drop \\d"
                     + "|wait( \\d{1,2})?)"));
 

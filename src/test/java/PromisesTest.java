@@ -2,12 +2,6 @@ import java.lang.reflect.Field;
 
 /** For each promise of the document: ordinary inputs, the edges, and wrong inputs. */
 final class PromisesTest {
-    private static final String INDEX = "IndexOutOfBoundsException";
-    private static final String ARGUMENT = "IllegalArgumentException";
-    private static final String STATE = "IllegalStateException";
-    private static final String MISSING = "NoSuchElementException";
-    private static final String UNSUPPORTED = "UnsupportedOperationException";
-    private static final String ARITHMETIC = "ArithmeticException";
     private static final int[] NO_INDICES = {-1, 2, 6, 8, Integer.MIN_VALUE, Integer.MAX_VALUE};
 
     public static void main(String[] args) throws ReflectiveOperationException {
@@ -57,33 +51,6 @@ final class PromisesTest {
         Check.finish();
     }
 
-    private static LampLeaseOffice office(int ships, int... levels) {
-        LampLeaseOffice office = new LampLeaseOffice();
-        for (int ship = 0; ship < ships; ship++) {
-            office.addShip();
-        }
-        for (int level : levels) {
-            office.addLamp(level);
-        }
-        return office;
-    }
-
-    private static Object run(LampLeaseOffice office, String text) {
-        for (char sign : text.toCharArray()) {
-            office.feed(sign);
-        }
-        return Check.outcome(office::runCommands);
-    }
-
-    private static String output(LampLeaseOffice office) {
-        StringBuilder signs = new StringBuilder();
-        int length = office.writeLamps();
-        for (int index = 0; index < length; index++) {
-            signs.append(office.outputChar(index));
-        }
-        return signs.toString();
-    }
-
     private static void promise1NewObject() {
         LampLeaseOffice office = new LampLeaseOffice();
         Check.same("1 ships", 0, office.shipCount());
@@ -101,7 +68,7 @@ final class PromisesTest {
         for (int ship = 0; ship < 6; ship++) {
             Check.same("2 index", ship, office.addShip());
         }
-        Check.due("2 seventh ship", STATE, office::addShip);
+        Check.due("2 seventh ship", Due.STATE, office::addShip);
         Check.same("2 ships after the refusal", 6, office.shipCount());
         Check.same("2 recorded calls after the refusal", 6, office.undoCount());
     }
@@ -112,33 +79,33 @@ final class PromisesTest {
             Check.same("3 index", lamp, office.addLamp(lamp % 3 + 1));
             Check.same("3 not leased", false, office.isLeased(lamp));
         }
-        Check.due("3 ninth lamp", STATE, () -> office.addLamp(1));
-        Check.due("3 level 0 comes first", ARGUMENT, () -> office.addLamp(0));
-        Check.due("3 level 4 comes first", ARGUMENT, () -> office.addLamp(4));
-        Check.due("3 least level", ARGUMENT, () -> office.addLamp(Integer.MIN_VALUE));
-        Check.due("3 greatest level", ARGUMENT, () -> office.addLamp(Integer.MAX_VALUE));
+        Check.due("3 ninth lamp", Due.STATE, () -> office.addLamp(1));
+        Check.due("3 level 0 comes first", Due.ARGUMENT, () -> office.addLamp(0));
+        Check.due("3 level 4 comes first", Due.ARGUMENT, () -> office.addLamp(4));
+        Check.due("3 least level", Due.ARGUMENT, () -> office.addLamp(Integer.MIN_VALUE));
+        Check.due("3 greatest level", Due.ARGUMENT, () -> office.addLamp(Integer.MAX_VALUE));
         Check.same("3 lamps after the refusals", 8, office.lampCount());
     }
 
     private static void promise4AddOil() {
         LampLeaseOffice office = new LampLeaseOffice();
-        Check.due("4 no unit", ARGUMENT, () -> office.addOil(0));
-        Check.due("4 negative", ARGUMENT, () -> office.addOil(-1));
-        Check.due("4 too many units", ARGUMENT, () -> office.addOil(201));
-        Check.due("4 greatest number", ARGUMENT, () -> office.addOil(Integer.MAX_VALUE));
-        Check.due("4 least number", ARGUMENT, () -> office.addOil(Integer.MIN_VALUE));
+        Check.due("4 no unit", Due.ARGUMENT, () -> office.addOil(0));
+        Check.due("4 negative", Due.ARGUMENT, () -> office.addOil(-1));
+        Check.due("4 too many units", Due.ARGUMENT, () -> office.addOil(201));
+        Check.due("4 greatest number", Due.ARGUMENT, () -> office.addOil(Integer.MAX_VALUE));
+        Check.due("4 least number", Due.ARGUMENT, () -> office.addOil(Integer.MIN_VALUE));
         Check.same("4 one unit", 1, office.addOil(1));
         Check.same("4 most units", 201, office.addOil(200));
         Check.same("4 more", 400, office.addOil(199));
-        Check.due("4 over the brim", STATE, () -> office.addOil(101));
+        Check.due("4 over the brim", Due.STATE, () -> office.addOil(101));
         Check.same("4 oil after the refusal", 400, office.oil());
         Check.same("4 to the brim", 500, office.addOil(100));
-        Check.due("4 full", STATE, () -> office.addOil(1));
-        Check.due("4 full, but the number is wrong", ARGUMENT, () -> office.addOil(201));
+        Check.due("4 full", Due.STATE, () -> office.addOil(1));
+        Check.due("4 full, but the number is wrong", Due.ARGUMENT, () -> office.addOil(201));
     }
 
     private static void promise5Lease() {
-        LampLeaseOffice office = office(2, 3, 2);
+        LampLeaseOffice office = Offices.with(2, 3, 2);
         office.passHours(5);
         Check.same("5 end hour", 15, office.lease(1, 0, 10));
         Check.same("5 price", 70, office.coins(1));
@@ -146,39 +113,39 @@ final class PromisesTest {
         Check.same("5 lessee", 1, office.lessee(0));
         Check.same("5 other ship", 100, office.coins(0));
         Check.same("5 longest lease", 29, office.lease(1, 1, 24));
-        LampLeaseOffice poor = office(1, 2, 2, 1, 1, 1);
+        LampLeaseOffice poor = Offices.with(1, 2, 2, 1, 1, 1);
         poor.lease(0, 0, 24);
         poor.lease(0, 1, 24);
-        Check.due("5 too dear", UNSUPPORTED, () -> poor.lease(0, 2, 5));
+        Check.due("5 too dear", Due.UNSUPPORTED, () -> poor.lease(0, 2, 5));
         Check.same("5 not paid", 4, poor.coins(0));
         Check.same("5 not leased", false, poor.isLeased(2));
         Check.same("5 the last coins", 4, poor.lease(0, 2, 4));
         Check.same("5 poor", 0, poor.coins(0));
-        Check.due("5 nothing left", UNSUPPORTED, () -> poor.lease(0, 3, 1));
+        Check.due("5 nothing left", Due.UNSUPPORTED, () -> poor.lease(0, 3, 1));
     }
 
     private static void promise5LeaseFaultOrder() {
-        LampLeaseOffice office = office(2, 3, 3);
+        LampLeaseOffice office = Offices.with(2, 3, 3);
         for (int wrong : NO_INDICES) {
-            Check.due("5 no ship", INDEX, () -> office.lease(wrong, 0, 1));
-            Check.due("5 no lamp", INDEX, () -> office.lease(0, wrong, 1));
-            Check.due("5 no ship before hours", INDEX, () -> office.lease(wrong, 0, 0));
-            Check.due("5 no lamp before hours", INDEX, () -> office.lease(0, wrong, 25));
+            Check.due("5 no ship", Due.INDEX, () -> office.lease(wrong, 0, 1));
+            Check.due("5 no lamp", Due.INDEX, () -> office.lease(0, wrong, 1));
+            Check.due("5 no ship before hours", Due.INDEX, () -> office.lease(wrong, 0, 0));
+            Check.due("5 no lamp before hours", Due.INDEX, () -> office.lease(0, wrong, 25));
         }
         office.lease(0, 0, 24);
         for (int hours : new int[] {0, 25, -1, Integer.MIN_VALUE, Integer.MAX_VALUE}) {
-            Check.due("5 hours before leased", ARGUMENT, () -> office.lease(0, 0, hours));
-            Check.due("5 hours", ARGUMENT, () -> office.lease(0, 1, hours));
+            Check.due("5 hours before leased", Due.ARGUMENT, () -> office.lease(0, 0, hours));
+            Check.due("5 hours", Due.ARGUMENT, () -> office.lease(0, 1, hours));
         }
-        Check.due("5 leased before coins", STATE, () -> office.lease(0, 0, 24));
-        Check.due("5 leased to another", STATE, () -> office.lease(1, 0, 1));
-        Check.due("5 coins", UNSUPPORTED, () -> office.lease(0, 1, 24));
+        Check.due("5 leased before coins", Due.STATE, () -> office.lease(0, 0, 24));
+        Check.due("5 leased to another", Due.STATE, () -> office.lease(1, 0, 1));
+        Check.due("5 coins", Due.UNSUPPORTED, () -> office.lease(0, 1, 24));
         Check.same("5 nothing paid", 28, office.coins(0));
         Check.same("5 recorded", 5, office.undoCount());
     }
 
     private static void promise6RequestRenewal() {
-        LampLeaseOffice office = office(1, 1, 1, 1);
+        LampLeaseOffice office = Offices.with(1, 1, 1, 1);
         office.lease(0, 0, 1);
         office.lease(0, 1, 1);
         office.lease(0, 2, 1);
@@ -193,23 +160,23 @@ final class PromisesTest {
     }
 
     private static void promise6RequestFaultOrder() {
-        LampLeaseOffice office = office(1, 1, 1);
+        LampLeaseOffice office = Offices.with(1, 1, 1);
         office.lease(0, 0, 3);
         office.requestRenewal(0, 1);
         for (int wrong : NO_INDICES) {
-            Check.due("6 no lamp", INDEX, () -> office.requestRenewal(wrong, 0));
+            Check.due("6 no lamp", Due.INDEX, () -> office.requestRenewal(wrong, 0));
         }
         for (int hours : new int[] {0, 25, -5, Integer.MIN_VALUE, Integer.MAX_VALUE}) {
-            Check.due("6 hours before not leased", ARGUMENT, () -> office.requestRenewal(1, hours));
-            Check.due("6 hours before requested", ARGUMENT, () -> office.requestRenewal(0, hours));
+            Check.due("6 hours before not leased", Due.ARGUMENT, () -> office.requestRenewal(1, hours));
+            Check.due("6 hours before requested", Due.ARGUMENT, () -> office.requestRenewal(0, hours));
         }
-        Check.due("6 not leased", MISSING, () -> office.requestRenewal(1, 1));
-        Check.due("6 requested", STATE, () -> office.requestRenewal(0, 1));
+        Check.due("6 not leased", Due.MISSING, () -> office.requestRenewal(1, 1));
+        Check.due("6 requested", Due.STATE, () -> office.requestRenewal(0, 1));
         Check.same("6 requests", 1, office.requestCount());
     }
 
     private static void promise7GiveUp() {
-        LampLeaseOffice office = office(1, 2, 1);
+        LampLeaseOffice office = Offices.with(1, 2, 1);
         office.lease(0, 0, 10);
         office.lease(0, 1, 5);
         office.requestRenewal(1, 2);
@@ -223,17 +190,17 @@ final class PromisesTest {
         Check.same("7 its request is removed", 1, office.requestCount());
         Check.same("7 the other request stays", 1, office.requestedLamp(0));
         Check.same("7 the hours of the other request", 3, office.requestedHours(0));
-        Check.due("7 again", MISSING, () -> office.giveUp(0));
+        Check.due("7 again", Due.MISSING, () -> office.giveUp(0));
         Check.same("7 renewed lease", 4, office.giveUp(1));
         for (int wrong : NO_INDICES) {
-            Check.due("7 no lamp", INDEX, () -> office.giveUp(wrong));
+            Check.due("7 no lamp", Due.INDEX, () -> office.giveUp(wrong));
         }
     }
 
     private static void promise8PassHours() {
-        LampLeaseOffice office = office(1, 1, 1, 1);
+        LampLeaseOffice office = Offices.with(1, 1, 1, 1);
         for (int hours : new int[] {0, -1, 49, Integer.MIN_VALUE, Integer.MAX_VALUE}) {
-            Check.due("8 hours", ARGUMENT, () -> office.passHours(hours));
+            Check.due("8 hours", Due.ARGUMENT, () -> office.passHours(hours));
         }
         Check.same("8 hour after the refusals", 0, office.hour());
         office.lease(0, 0, 2);
@@ -249,7 +216,7 @@ final class PromisesTest {
 
     private static void promise8OrderOfAnHour() {
         // A renewal is paid before the fine is, so the fine finds fewer coins.
-        LampLeaseOffice office = office(2, 3, 3, 1, 1);
+        LampLeaseOffice office = Offices.with(2, 3, 3, 1, 1);
         office.lease(0, 0, 24);
         office.lease(0, 1, 1);
         office.lease(1, 2, 1);
@@ -262,12 +229,12 @@ final class PromisesTest {
         Check.same("8 the later lamp burns the oil", true, office.wasBright(2));
         Check.same("8 no fine with a bright lamp", 0, office.finesPaid(1));
         // The leases that end in an hour are fined in it.
-        LampLeaseOffice dark = office(1, 1);
+        LampLeaseOffice dark = Offices.with(1, 1);
         dark.lease(0, 0, 1);
         Check.same("8 ends dark", 1, dark.passHours(1));
         Check.same("8 fined in its last hour", 2, dark.finesPaid(0));
         // Lamps burn in the order of their indices, not by level.
-        LampLeaseOffice order = office(1, 3, 1, 2);
+        LampLeaseOffice order = Offices.with(1, 3, 1, 2);
         order.lease(0, 0, 2);
         order.lease(0, 1, 2);
         order.lease(0, 2, 2);
@@ -281,7 +248,7 @@ final class PromisesTest {
 
     private static void promise8Renewals() {
         // The ship can pay one of the two renewals: the one requested first.
-        LampLeaseOffice office = office(1, 3, 2);
+        LampLeaseOffice office = Offices.with(1, 3, 2);
         office.lease(0, 0, 24);
         office.lease(0, 1, 1);
         office.requestRenewal(1, 13);
@@ -307,19 +274,19 @@ final class PromisesTest {
     }
 
     private static void promise10And11ShipsAndCoins() {
-        LampLeaseOffice office = office(2, 1);
+        LampLeaseOffice office = Offices.with(2, 1);
         Check.same("10 ships", 2, office.shipCount());
         Check.same("11 first coins", 100, office.coins(1));
         office.lease(1, 0, 9);
         Check.same("11 coins", 91, office.coins(1));
         Check.same("11 other coins", 100, office.coins(0));
         for (int wrong : NO_INDICES) {
-            Check.due("11 no ship", INDEX, () -> office.coins(wrong));
+            Check.due("11 no ship", Due.INDEX, () -> office.coins(wrong));
         }
     }
 
     private static void promise12And13Fines() {
-        LampLeaseOffice office = office(2, 1, 1, 3, 3);
+        LampLeaseOffice office = Offices.with(2, 1, 1, 3, 3);
         Check.same("12 no fine", 0, office.finesPaid(0));
         Check.same("13 no dark hour", 0, office.darkHours(0));
         office.lease(0, 0, 2);
@@ -339,13 +306,13 @@ final class PromisesTest {
         Check.same("12 nothing left to pay", 1, office.finesPaid(1));
         Check.same("13 counted without coins", 2, office.darkHours(1));
         for (int wrong : NO_INDICES) {
-            Check.due("12 no ship", INDEX, () -> office.finesPaid(wrong));
-            Check.due("13 no ship", INDEX, () -> office.darkHours(wrong));
+            Check.due("12 no ship", Due.INDEX, () -> office.finesPaid(wrong));
+            Check.due("13 no ship", Due.INDEX, () -> office.darkHours(wrong));
         }
     }
 
     private static void promise14And15DemandAndLeases() {
-        LampLeaseOffice office = office(2, 3, 2, 1);
+        LampLeaseOffice office = Offices.with(2, 3, 2, 1);
         Check.same("14 no demand", 0, office.demand(0));
         Check.same("15 no leases", 0, office.leasesOf(0));
         office.lease(0, 0, 1);
@@ -359,46 +326,46 @@ final class PromisesTest {
         Check.same("14 demand after an end", 1, office.demand(0));
         Check.same("15 leases after an end", 1, office.leasesOf(0));
         for (int wrong : NO_INDICES) {
-            Check.due("14 no ship", INDEX, () -> office.demand(wrong));
-            Check.due("15 no ship", INDEX, () -> office.leasesOf(wrong));
+            Check.due("14 no ship", Due.INDEX, () -> office.demand(wrong));
+            Check.due("15 no ship", Due.INDEX, () -> office.leasesOf(wrong));
         }
     }
 
     private static void promise16And17Lamps() {
-        LampLeaseOffice office = office(0, 3, 1);
+        LampLeaseOffice office = Offices.with(0, 3, 1);
         Check.same("16 lamps", 2, office.lampCount());
         Check.same("17 level", 3, office.level(0));
         Check.same("17 other level", 1, office.level(1));
         for (int wrong : NO_INDICES) {
-            Check.due("17 no lamp", INDEX, () -> office.level(wrong));
+            Check.due("17 no lamp", Due.INDEX, () -> office.level(wrong));
         }
     }
 
     private static void promise18To20Leases() {
-        LampLeaseOffice office = office(2, 3, 1);
+        LampLeaseOffice office = Offices.with(2, 3, 1);
         office.passHours(2);
         office.lease(1, 1, 4);
         Check.same("18 leased", true, office.isLeased(1));
         Check.same("18 not leased", false, office.isLeased(0));
         Check.same("19 lessee", 1, office.lessee(1));
         Check.same("20 end hour", 6, office.endHour(1));
-        Check.due("19 not leased", MISSING, () -> office.lessee(0));
-        Check.due("20 not leased", MISSING, () -> office.endHour(0));
+        Check.due("19 not leased", Due.MISSING, () -> office.lessee(0));
+        Check.due("20 not leased", Due.MISSING, () -> office.endHour(0));
         office.requestRenewal(1, 2);
         office.passHours(1);
         Check.same("20 renewed", 8, office.endHour(1));
         office.passHours(5);
-        Check.due("19 ended", MISSING, () -> office.lessee(1));
-        Check.due("20 ended", MISSING, () -> office.endHour(1));
+        Check.due("19 ended", Due.MISSING, () -> office.lessee(1));
+        Check.due("20 ended", Due.MISSING, () -> office.endHour(1));
         for (int wrong : NO_INDICES) {
-            Check.due("18 no lamp", INDEX, () -> office.isLeased(wrong));
-            Check.due("19 no lamp", INDEX, () -> office.lessee(wrong));
-            Check.due("20 no lamp", INDEX, () -> office.endHour(wrong));
+            Check.due("18 no lamp", Due.INDEX, () -> office.isLeased(wrong));
+            Check.due("19 no lamp", Due.INDEX, () -> office.lessee(wrong));
+            Check.due("20 no lamp", Due.INDEX, () -> office.endHour(wrong));
         }
     }
 
     private static void promise21And22Brightness() {
-        LampLeaseOffice office = office(1, 2, 1);
+        LampLeaseOffice office = Offices.with(1, 2, 1);
         Check.same("22 no hour yet", false, office.wasBright(0));
         office.addOil(5);
         office.lease(0, 0, 3);
@@ -418,13 +385,13 @@ final class PromisesTest {
         Check.same("22 not in the latest hour", false, office.wasBright(1));
         Check.same("21 kept after the end", 1, office.brightHours(1));
         for (int wrong : NO_INDICES) {
-            Check.due("21 no lamp", INDEX, () -> office.brightHours(wrong));
-            Check.due("22 no lamp", INDEX, () -> office.wasBright(wrong));
+            Check.due("21 no lamp", Due.INDEX, () -> office.brightHours(wrong));
+            Check.due("22 no lamp", Due.INDEX, () -> office.wasBright(wrong));
         }
     }
 
     private static void promise23To25LeasedLampsOilConsumption() {
-        LampLeaseOffice office = office(2, 3, 2, 1);
+        LampLeaseOffice office = Offices.with(2, 3, 2, 1);
         Check.same("23 none", 0, office.leasedLamps());
         Check.same("25 none", 0, office.consumption());
         office.lease(0, 0, 2);
@@ -445,8 +412,8 @@ final class PromisesTest {
     }
 
     private static void promise26And27HoursOfOil() {
-        LampLeaseOffice office = office(2, 3, 2, 1);
-        dueHours("no lease", MISSING, office);
+        LampLeaseOffice office = Offices.with(2, 3, 2, 1);
+        dueHours("no lease", Due.MISSING, office);
         office.lease(0, 0, 4);
         dueHours("no oil", 0, office);
         office.addOil(2);
@@ -456,7 +423,7 @@ final class PromisesTest {
         office.addOil(8);
         dueHours("an hour is missing", 3, office);
         office.addOil(1);
-        dueHours("just enough", MISSING, office);
+        dueHours("just enough", Due.MISSING, office);
         office.lease(1, 1, 6);
         office.lease(0, 2, 4);
         // Four hours would take 24 units, of which there are 12.
@@ -466,10 +433,10 @@ final class PromisesTest {
         office.requestRenewal(1, 24);
         dueHours("requests do not count", 5, office);
         office.addOil(2);
-        dueHours("enough for all", MISSING, office);
+        dueHours("enough for all", Due.MISSING, office);
         office.passHours(2);
         dueHours("later, with the renewal", 4, office);
-        LampLeaseOffice late = office(1, 1);
+        LampLeaseOffice late = Offices.with(1, 1);
         late.passHours(48);
         late.addOil(20);
         late.lease(0, 0, 24);
@@ -477,7 +444,7 @@ final class PromisesTest {
     }
 
     private static void promise28To30BrightLamps() {
-        LampLeaseOffice office = office(2, 3, 1, 2, 1, 3);
+        LampLeaseOffice office = Offices.with(2, 3, 1, 2, 1, 3);
         office.addOil(4);
         Check.same("28 no lease", 0, office.brightNext());
         Check.same("29 no lease", 0, office.mostBright());
@@ -495,7 +462,7 @@ final class PromisesTest {
         Check.same("28 all", 4, office.brightNext());
         Check.same("29 all", 4, office.mostBright());
         Check.same("30 all", 4, office.mostBrightBySums());
-        LampLeaseOffice skipping = office(1, 3, 3, 1);
+        LampLeaseOffice skipping = Offices.with(1, 3, 3, 1);
         for (int lamp = 0; lamp < 3; lamp++) {
             skipping.lease(0, lamp, 1);
         }
@@ -503,7 +470,7 @@ final class PromisesTest {
         Check.same("30 no oil", 0, skipping.mostBrightBySums());
         skipping.addOil(4);
         Check.same("28 a dark lamp between", 2, skipping.brightNext());
-        LampLeaseOffice full = office(6, 3, 3, 3, 3, 3, 3, 3, 3);
+        LampLeaseOffice full = Offices.with(6, 3, 3, 3, 3, 3, 3, 3, 3);
         for (int lamp = 0; lamp < 8; lamp++) {
             full.lease(lamp % 6, lamp, 1);
         }
@@ -523,7 +490,7 @@ final class PromisesTest {
     }
 
     private static void promise31And32Shares() {
-        LampLeaseOffice office = office(4, 3, 2, 1, 1, 1);
+        LampLeaseOffice office = Offices.with(4, 3, 2, 1, 1, 1);
         office.addOil(11);
         dueShares("no demand", office, 0, 0, 0, 0);
         office.lease(1, 0, 9);
@@ -534,7 +501,7 @@ final class PromisesTest {
         office.addOil(2);
         // 39 / 6, 26 / 6 and 13 / 6: the remainders are 3, 2 and 1.
         dueShares("one unit left", office, 0, 7, 4, 2);
-        LampLeaseOffice even = office(3, 1, 1, 1);
+        LampLeaseOffice even = Offices.with(3, 1, 1, 1);
         for (int ship = 0; ship < 3; ship++) {
             even.lease(ship, 2 - ship, 3);
         }
@@ -546,7 +513,7 @@ final class PromisesTest {
         even.addOil(1);
         dueShares("nothing left", even, 1, 1, 1);
         Check.same("31 only computed", 3, even.oil());
-        LampLeaseOffice undone = office(2, 1, 1, 3);
+        LampLeaseOffice undone = Offices.with(2, 1, 1, 3);
         undone.lease(0, 0, 5);
         undone.lease(1, 1, 5);
         undone.addOil(3);
@@ -559,17 +526,17 @@ final class PromisesTest {
         undone.undo();
         undone.undo();
         dueShares("the third ship is undone", undone, 2, 1);
-        LampLeaseOffice two = office(2, 1);
+        LampLeaseOffice two = Offices.with(2, 1);
         for (int wrong : NO_INDICES) {
-            Check.due("31 no ship", INDEX, () -> two.share(wrong));
-            Check.due("32 no ship", INDEX, () -> two.shareByRank(wrong));
+            Check.due("31 no ship", Due.INDEX, () -> two.share(wrong));
+            Check.due("32 no ship", Due.INDEX, () -> two.shareByRank(wrong));
         }
     }
 
     private static void promise33To35Queue() {
-        LampLeaseOffice office = office(1, 1, 1, 1);
-        Check.due("34 empty", MISSING, () -> office.requestedLamp(0));
-        Check.due("35 empty", MISSING, () -> office.requestedHours(0));
+        LampLeaseOffice office = Offices.with(1, 1, 1, 1);
+        Check.due("34 empty", Due.MISSING, () -> office.requestedLamp(0));
+        Check.due("35 empty", Due.MISSING, () -> office.requestedHours(0));
         for (int lamp = 0; lamp < 3; lamp++) {
             office.lease(0, lamp, 2);
         }
@@ -586,15 +553,15 @@ final class PromisesTest {
         Check.same("34 moved up", 1, office.requestedLamp(1));
         Check.same("35 moved up", 1, office.requestedHours(1));
         for (int wrong : NO_INDICES) {
-            Check.due("34 no position", MISSING, () -> office.requestedLamp(wrong));
-            Check.due("35 no position", MISSING, () -> office.requestedHours(wrong));
+            Check.due("34 no position", Due.MISSING, () -> office.requestedLamp(wrong));
+            Check.due("35 no position", Due.MISSING, () -> office.requestedHours(wrong));
         }
         office.passHours(1);
         Check.same("33 none after an hour", 0, office.requestCount());
     }
 
     private static void promise36And37RefusedAndOfficeCoins() {
-        LampLeaseOffice office = office(1, 3, 1);
+        LampLeaseOffice office = Offices.with(1, 3, 1);
         office.lease(0, 0, 24);
         office.lease(0, 1, 24);
         Check.same("37 leases", 96, office.officeCoins());
@@ -606,7 +573,7 @@ final class PromisesTest {
         office.requestRenewal(1, 1);
         office.passHours(1);
         Check.same("36 one more", 3, office.refusedRenewals());
-        LampLeaseOffice rich = office(1, 2);
+        LampLeaseOffice rich = Offices.with(1, 2);
         rich.lease(0, 0, 1);
         rich.requestRenewal(0, 3);
         rich.addOil(9);
@@ -618,7 +585,7 @@ final class PromisesTest {
     }
 
     private static void promise38ShipByFines() {
-        LampLeaseOffice office = office(4, 1, 1, 1);
+        LampLeaseOffice office = Offices.with(4, 1, 1, 1);
         Check.same("38 by index", 2, office.shipByFines(2));
         office.lease(3, 0, 1);
         office.passHours(1);
@@ -627,16 +594,16 @@ final class PromisesTest {
         Check.same("38 fewer coins", 2, office.shipByFines(1));
         Check.same("38 lower index", 0, office.shipByFines(2));
         Check.same("38 last", 1, office.shipByFines(3));
-        Check.due("38 no such rank", MISSING, () -> office.shipByFines(4));
-        Check.due("38 negative rank", MISSING, () -> office.shipByFines(-1));
-        Check.due("38 least rank", MISSING, () -> office.shipByFines(Integer.MIN_VALUE));
-        Check.due("38 greatest rank", MISSING, () -> office.shipByFines(Integer.MAX_VALUE));
-        Check.due("38 no ships", MISSING, () -> new LampLeaseOffice().shipByFines(0));
+        Check.due("38 no such rank", Due.MISSING, () -> office.shipByFines(4));
+        Check.due("38 negative rank", Due.MISSING, () -> office.shipByFines(-1));
+        Check.due("38 least rank", Due.MISSING, () -> office.shipByFines(Integer.MIN_VALUE));
+        Check.due("38 greatest rank", Due.MISSING, () -> office.shipByFines(Integer.MAX_VALUE));
+        Check.due("38 no ships", Due.MISSING, () -> new LampLeaseOffice().shipByFines(0));
     }
 
     private static void promise39LampByEnd() {
-        LampLeaseOffice office = office(2, 1, 2, 3, 3, 1);
-        Check.due("39 no lease", MISSING, () -> office.lampByEnd(0));
+        LampLeaseOffice office = Offices.with(2, 1, 2, 3, 3, 1);
+        Check.due("39 no lease", Due.MISSING, () -> office.lampByEnd(0));
         office.lease(0, 0, 5);
         office.lease(1, 1, 7);
         office.lease(0, 2, 7);
@@ -645,18 +612,18 @@ final class PromisesTest {
         Check.same("39 higher level", 2, office.lampByEnd(1));
         Check.same("39 lower index", 3, office.lampByEnd(2));
         Check.same("39 last", 1, office.lampByEnd(3));
-        Check.due("39 no such rank", MISSING, () -> office.lampByEnd(4));
-        Check.due("39 negative rank", MISSING, () -> office.lampByEnd(-1));
-        Check.due("39 least rank", MISSING, () -> office.lampByEnd(Integer.MIN_VALUE));
-        Check.due("39 greatest rank", MISSING, () -> office.lampByEnd(Integer.MAX_VALUE));
+        Check.due("39 no such rank", Due.MISSING, () -> office.lampByEnd(4));
+        Check.due("39 negative rank", Due.MISSING, () -> office.lampByEnd(-1));
+        Check.due("39 least rank", Due.MISSING, () -> office.lampByEnd(Integer.MIN_VALUE));
+        Check.due("39 greatest rank", Due.MISSING, () -> office.lampByEnd(Integer.MAX_VALUE));
         office.giveUp(0);
         Check.same("39 leased lamps only", 2, office.lampByEnd(0));
     }
 
     private static void promise40And41Means() {
-        LampLeaseOffice office = office(3, 1, 1, 1);
-        Check.due("40 no ships", ARITHMETIC, () -> new LampLeaseOffice().meanCoins());
-        Check.due("41 no lamps", ARITHMETIC, () -> new LampLeaseOffice().leasedShare());
+        LampLeaseOffice office = Offices.with(3, 1, 1, 1);
+        Check.due("40 no ships", Due.ARITHMETIC, () -> new LampLeaseOffice().meanCoins());
+        Check.due("41 no lamps", Due.ARITHMETIC, () -> new LampLeaseOffice().leasedShare());
         Check.same("40 at first", 100.0, office.meanCoins());
         Check.same("41 at first", 0f, office.leasedShare());
         office.lease(0, 0, 1);
@@ -669,7 +636,7 @@ final class PromisesTest {
     }
 
     private static void promise42Consistent() {
-        LampLeaseOffice office = office(3, 3, 2, 1);
+        LampLeaseOffice office = Offices.with(3, 3, 2, 1);
         Check.same("42 new", true, new LampLeaseOffice().isConsistent());
         office.addOil(17);
         Check.same("42 without demand", true, office.isConsistent());
@@ -685,22 +652,22 @@ final class PromisesTest {
 
     /** No call leads to a state that is not consistent, so this test breaks one itself. */
     private static void promise42Inconsistent() throws ReflectiveOperationException {
-        LampLeaseOffice coins = office(2, 1);
+        LampLeaseOffice coins = Offices.with(2, 1);
         putInt(inside(coins, "state"), "officeCoins", 1);
         Check.same("42 a coin too many", false, coins.isConsistent());
-        LampLeaseOffice requests = office(2, 1);
+        LampLeaseOffice requests = Offices.with(2, 1);
         requests.lease(0, 0, 1);
         requests.requestRenewal(0, 1);
         Check.same("42 a request", true, requests.isConsistent());
         lampRow(requests, "lessees")[0] = -1;
         Check.same("42 a request without a lease", false, requests.isConsistent());
-        LampLeaseOffice shares = office(2, 1);
+        LampLeaseOffice shares = Offices.with(2, 1);
         shares.lease(0, 0, 1);
         shares.addOil(10);
         Check.same("42 shares", true, shares.isConsistent());
         lampRow(shares, "lessees")[0] = 5;
         Check.same("42 the demand of no ship", false, shares.isConsistent());
-        LampLeaseOffice bright = office(2, 1);
+        LampLeaseOffice bright = Offices.with(2, 1);
         bright.lease(0, 0, 1);
         bright.addOil(10);
         lampRow(bright, "levels")[0] = 4;
@@ -731,84 +698,85 @@ final class PromisesTest {
         for (int length = 1; length <= 60; length++) {
             Check.same("43 length", length, office.feed(signs[length % signs.length]));
         }
-        Check.due("43 full", STATE, () -> office.feed('x'));
-        Check.due("43 the text is malformed", ARGUMENT, office::runCommands);
+        Check.due("43 full", Due.STATE, () -> office.feed('x'));
+        Check.due("43 the text is malformed", Due.ARGUMENT, office::runCommands);
         Check.same("43 empty again", 1, office.feed('x'));
         Check.same("43 not recorded", 0, office.undoCount());
     }
 
     private static void promise44RunCommands() {
         LampLeaseOffice office = new LampLeaseOffice();
-        Check.same("44 empty text", ARGUMENT, run(office, ""));
-        Check.same("44 one command", 1, run(office, "ship"));
+        Check.same("44 empty text", Due.ARGUMENT, Offices.run(office, ""));
+        Check.same("44 one command", 1, Offices.run(office, "ship"));
         Check.same("44 buffer empty after a run", 1, office.feed('s'));
-        Check.same("44 a text goes on", 2, run(office, "hip;lamp 2"));
-        Check.same("44 malformed", ARGUMENT, run(office, "ship;ship;shp"));
+        Check.same("44 a text goes on", 2, Offices.run(office, "hip;lamp 2"));
+        Check.same("44 malformed", Due.ARGUMENT, Offices.run(office, "ship;ship;shp"));
         Check.same("44 nothing of a malformed text", 2, office.shipCount());
-        Check.same("44 buffer empty after malformed", 1, run(office, "wait"));
-        Check.same("44 failed", UNSUPPORTED, run(office, "oil 5;wait;lease 0 0 9;drop 5"));
+        Check.same("44 buffer empty after malformed", 1, Offices.run(office, "wait"));
+        Check.same("44 failed", Due.UNSUPPORTED, Offices.run(office, "oil 5;wait;lease 0 0 9;drop 5"));
         Check.same("44 the oil from before", 0, office.oil());
         Check.same("44 the hour from before", 1, office.hour());
         Check.same("44 the coins from before", 100, office.coins(0));
         Check.same("44 the lamp from before", false, office.isLeased(0));
-        Check.same("44 buffer empty after a failure", 1, run(office, "wait"));
+        Check.same("44 buffer empty after a failure", 1, Offices.run(office, "wait"));
         Check.same("44 recorded runs", 4, office.undoCount());
         String most = "wait;wait;wait;wait;wait;wait;wait;wait;wait;wait;wait;wait";
-        Check.same("44 most commands", 12, run(office, most));
+        Check.same("44 most commands", 12, Offices.run(office, most));
         Check.same("44 most hours", 14, office.hour());
-        Check.same("44 full buffer", ARGUMENT, run(office, most + ";"));
+        Check.same("44 full buffer", Due.ARGUMENT, Offices.run(office, most + ";"));
         Check.same("44 error at the end", 60, office.errorPosition());
     }
 
     private static void promise44EveryCommand() {
         LampLeaseOffice office = new LampLeaseOffice();
-        Check.same("44 all", 7, run(office, "ship;lamp 3;oil 123;lease 0 0 24;renew 0 08;wait;drop 0"));
+        Check.same("44 all", 7, Offices.run(office,
+                "ship;lamp 3;oil 123;lease 0 0 24;renew 0 08;wait;drop 0"));
         Check.same("44 ship", 1, office.shipCount());
         Check.same("44 lamp", 3, office.level(0));
         Check.same("44 oil", 120, office.oil());
         Check.same("44 lease and renewal", 4, office.coins(0));
         Check.same("44 wait", 1, office.hour());
         Check.same("44 drop", false, office.isLeased(0));
-        Check.same("44 numbers", 4, run(office, "wait 48;wait 1;wait 09;oil 7"));
+        Check.same("44 numbers", 4, Offices.run(office, "wait 48;wait 1;wait 09;oil 7"));
         Check.same("44 hours", 59, office.hour());
         Check.same("44 oil of one digit", 127, office.oil());
-        Check.same("44 leading noughts", 3, run(office, "oil 007;oil 01;lease 0 0 01"));
+        Check.same("44 leading noughts", 3, Offices.run(office, "oil 007;oil 01;lease 0 0 01"));
         Check.same("44 more oil", 135, office.oil());
         Check.same("44 end hour", 60, office.endHour(0));
-        LampLeaseOffice six = office(6, 1, 1, 1, 1, 1, 1, 1, 1);
-        Check.same("44 the last indices", 2, run(six, "lease 5 7 2;renew 7 24"));
+        LampLeaseOffice six = Offices.with(6, 1, 1, 1, 1, 1, 1, 1, 1);
+        Check.same("44 the last indices", 2, Offices.run(six, "lease 5 7 2;renew 7 24"));
         Check.same("44 lessee", 5, six.lessee(7));
         Check.same("44 renewal", 24, six.requestedHours(0));
-        Check.same("44 dropped", 1, run(six, "drop 7"));
+        Check.same("44 dropped", 1, Offices.run(six, "drop 7"));
     }
 
     private static void promise44NothingOfAnEarlierText() {
         LampLeaseOffice office = new LampLeaseOffice();
-        run(office, "ship");
-        Check.same("44 two letters", ARGUMENT, run(office, "sh"));
+        Offices.run(office, "ship");
+        Check.same("44 two letters", Due.ARGUMENT, Offices.run(office, "sh"));
         Check.same("45 two letters", 2, office.errorPosition());
-        run(office, "ship");
-        Check.same("44 three letters", ARGUMENT, run(office, "shi"));
+        Offices.run(office, "ship");
+        Check.same("44 three letters", Due.ARGUMENT, Offices.run(office, "shi"));
         Check.same("45 three letters", 3, office.errorPosition());
-        run(office, "wait 23;ship");
-        Check.same("44 without a number", 1, run(office, "wait"));
+        Offices.run(office, "wait 23;ship");
+        Check.same("44 without a number", 1, Offices.run(office, "wait"));
         Check.same("44 one hour more", 24, office.hour());
-        run(office, "wait 16;ship");
-        Check.same("44 one digit", 1, run(office, "wait 2"));
+        Offices.run(office, "wait 16;ship");
+        Check.same("44 one digit", 1, Offices.run(office, "wait 2"));
         Check.same("44 two hours more", 42, office.hour());
-        run(office, "wait 1");
-        Check.same("44 no digit", ARGUMENT, run(office, "wait "));
+        Offices.run(office, "wait 1");
+        Check.same("44 no digit", Due.ARGUMENT, Offices.run(office, "wait "));
         Check.same("45 no digit", 5, office.errorPosition());
     }
 
     private static void dueError(int position, String text) {
-        LampLeaseOffice office = office(6, 1, 1, 1, 1, 1, 1, 1, 1);
-        Check.same("45 " + text, ARGUMENT, run(office, text));
+        LampLeaseOffice office = Offices.with(6, 1, 1, 1, 1, 1, 1, 1, 1);
+        Check.same("45 " + text, Due.ARGUMENT, Offices.run(office, text));
         Check.same("45 position in " + text, position, office.errorPosition());
     }
 
     private static void promise45ErrorPosition() {
-        Check.due("45 no text", MISSING, () -> new LampLeaseOffice().errorPosition());
+        Check.due("45 no text", Due.MISSING, () -> new LampLeaseOffice().errorPosition());
         dueError(0, "");
         dueError(0, "x");
         dueError(0, ";ship");
@@ -861,41 +829,41 @@ final class PromisesTest {
         dueError(5, "oil 1\u0663");
         dueError(0, "\u0173hip");
         LampLeaseOffice office = new LampLeaseOffice();
-        run(office, "oil 1x");
-        run(office, "ship");
-        run(office, "drop 0");
+        Offices.run(office, "oil 1x");
+        Offices.run(office, "ship");
+        Offices.run(office, "drop 0");
         Check.same("45 of the latest malformed text", 5, office.errorPosition());
-        run(office, "w");
+        Offices.run(office, "w");
         Check.same("45 of a later malformed text", 1, office.errorPosition());
         Check.due("46 malformed is no failure of w", 0, office::failedCommand);
     }
 
     private static void promise46And47Failures() {
         LampLeaseOffice office = new LampLeaseOffice();
-        Check.due("46 none", MISSING, office::failedCommand);
-        Check.due("47 none", MISSING, office::failureReason);
-        run(office, "nonsense");
-        Check.due("46 malformed is no failure", MISSING, office::failedCommand);
-        Check.due("47 malformed is no failure", MISSING, office::failureReason);
-        run(office, "ship;lamp 1;drop 0");
+        Check.due("46 none", Due.MISSING, office::failedCommand);
+        Check.due("47 none", Due.MISSING, office::failureReason);
+        Offices.run(office, "nonsense");
+        Check.due("46 malformed is no failure", Due.MISSING, office::failedCommand);
+        Check.due("47 malformed is no failure", Due.MISSING, office::failureReason);
+        Offices.run(office, "ship;lamp 1;drop 0");
         Check.same("46 third", 2, office.failedCommand());
         Check.same("47 not leased", 'n', office.failureReason());
         Check.due("45 failed is not malformed", 0, office::errorPosition);
-        run(office, "ship");
+        Offices.run(office, "ship");
         Check.same("46 kept by a good run", 2, office.failedCommand());
-        run(office, "lamp 9");
+        Offices.run(office, "lamp 9");
         Check.same("46 first", 0, office.failedCommand());
         Check.same("47 level", 'a', office.failureReason());
-        Check.due("5 a failed call of a method", INDEX, () -> office.lease(0, 0, 1));
+        Check.due("5 a failed call of a method", Due.INDEX, () -> office.lease(0, 0, 1));
         Check.same("46 not of a method", 0, office.failedCommand());
     }
 
     private static void dueReason(char reason, int command, String text) {
-        LampLeaseOffice office = office(6, 3, 3, 1, 1, 1, 1, 1);
+        LampLeaseOffice office = Offices.with(6, 3, 3, 1, 1, 1, 1, 1);
         office.addOil(200);
         office.addOil(200);
         office.lease(0, 0, 24);
-        Check.same("47 " + text, UNSUPPORTED, run(office, text));
+        Check.same("47 " + text, Due.UNSUPPORTED, Offices.run(office, text));
         Check.same("46 command in " + text, command, office.failedCommand());
         Check.same("47 reason in " + text, reason, office.failureReason());
     }
@@ -927,32 +895,32 @@ final class PromisesTest {
     }
 
     private static void promise48And49Output() {
-        LampLeaseOffice office = office(3, 3, 1, 2);
-        Check.due("49 at first", INDEX, () -> office.outputChar(0));
-        Check.same("48 not leased", "3 1 2", output(office));
+        LampLeaseOffice office = Offices.with(3, 3, 1, 2);
+        Check.due("49 at first", Due.INDEX, () -> office.outputChar(0));
+        Check.same("48 not leased", "3 1 2", Offices.output(office));
         office.lease(0, 0, 12);
         office.lease(2, 2, 5);
         office.requestRenewal(0, 1);
         Check.same("49 not yet written", '1', office.outputChar(2));
         Check.same("48 length", 15, office.writeLamps());
-        Check.same("48 the example", "3s0e12r 1 2s2e5", output(office));
-        Check.due("49 behind the end", INDEX, () -> office.outputChar(15));
-        Check.due("49 negative", INDEX, () -> office.outputChar(-1));
-        Check.due("49 least", INDEX, () -> office.outputChar(Integer.MIN_VALUE));
-        Check.due("49 greatest", INDEX, () -> office.outputChar(Integer.MAX_VALUE));
+        Check.same("48 the example", "3s0e12r 1 2s2e5", Offices.output(office));
+        Check.due("49 behind the end", Due.INDEX, () -> office.outputChar(15));
+        Check.due("49 negative", Due.INDEX, () -> office.outputChar(-1));
+        Check.due("49 least", Due.INDEX, () -> office.outputChar(Integer.MIN_VALUE));
+        Check.due("49 greatest", Due.INDEX, () -> office.outputChar(Integer.MAX_VALUE));
         for (int days = 0; days < 50; days++) {
             office.passHours(24);
         }
         office.lease(1, 1, 24);
-        Check.same("48 late", "3 1s1e1224 2", output(office));
+        Check.same("48 late", "3 1s1e1224 2", Offices.output(office));
         Check.same("48 shorter than before", 12, office.writeLamps());
-        Check.due("49 of the output before", INDEX, () -> office.outputChar(12));
-        Check.same("48 no lamps", "", output(new LampLeaseOffice()));
+        Check.due("49 of the output before", Due.INDEX, () -> office.outputChar(12));
+        Check.same("48 no lamps", "", Offices.output(new LampLeaseOffice()));
     }
 
     private static void promise50And51Undo() {
         LampLeaseOffice office = new LampLeaseOffice();
-        Check.due("51 nothing yet", STATE, office::undo);
+        Check.due("51 nothing yet", Due.STATE, office::undo);
         for (int calls = 1; calls <= 12; calls++) {
             office.addOil(calls);
             Check.same("50 after " + calls + " calls", Math.min(calls, 8), office.undoCount());
@@ -963,14 +931,14 @@ final class PromisesTest {
             oil -= calls;
             Check.same("51 oil", oil, office.oil());
         }
-        Check.due("51 no more", STATE, office::undo);
+        Check.due("51 no more", Due.STATE, office::undo);
         Check.same("51 the oldest calls stay", 10, office.oil());
         office.addOil(90);
         office.addOil(50);
         Check.same("50 again", 2, office.undoCount());
         Check.same("51 one of two", 1, office.undo());
         Check.same("51 the later is undone", 100, office.oil());
-        Check.due("4 a refused call", ARGUMENT, () -> office.addOil(0));
+        Check.due("4 a refused call", Due.ARGUMENT, () -> office.addOil(0));
         Check.same("50 refused calls are not recorded", 1, office.undoCount());
         office.oil();
         office.save();
@@ -979,7 +947,7 @@ final class PromisesTest {
     }
 
     private static void promise51UndoOfEachCall() {
-        LampLeaseOffice office = office(2, 2, 3);
+        LampLeaseOffice office = Offices.with(2, 2, 3);
         office.addOil(3);
         office.lease(1, 1, 4);
         office.requestRenewal(1, 2);
@@ -1016,7 +984,7 @@ final class PromisesTest {
     }
 
     private static void promise51UndoOfRows() {
-        LampLeaseOffice office = office(1, 1, 2);
+        LampLeaseOffice office = Offices.with(1, 1, 2);
         office.addOil(1);
         office.lease(0, 0, 5);
         office.lease(0, 1, 5);
@@ -1042,7 +1010,7 @@ final class PromisesTest {
         office.addLamp(3);
         office.restore();
         Check.same("53 the saved level", 1, office.level(2));
-        LampLeaseOffice fined = office(0, 1);
+        LampLeaseOffice fined = Offices.with(0, 1);
         fined.addShip();
         fined.lease(0, 0, 1);
         fined.passHours(1);
@@ -1055,12 +1023,12 @@ final class PromisesTest {
     }
 
     private static void promise51WhatUndoLeaves() {
-        LampLeaseOffice office = office(1, 1);
-        Check.same("51 three commands", 3, run(office, "oil 9;lease 0 0 3;wait 2"));
+        LampLeaseOffice office = Offices.with(1, 1);
+        Check.same("51 three commands", 3, Offices.run(office, "oil 9;lease 0 0 3;wait 2"));
         Check.same("50 one call", 3, office.undoCount());
-        output(office);
-        run(office, "oil 9x");
-        run(office, "drop 8");
+        Offices.output(office);
+        Offices.run(office, "oil 9x");
+        Offices.run(office, "drop 8");
         office.feed('s');
         Check.same("51 a run", 2, office.undo());
         Check.same("51 all its commands", 0, office.oil() + office.hour() + office.leasedLamps());
@@ -1069,7 +1037,7 @@ final class PromisesTest {
         Check.same("51 the failed command stays", 0, office.failedCommand());
         Check.same("51 the reason stays", 'i', office.failureReason());
         Check.same("51 the input buffer stays", 2, office.feed('h'));
-        LampLeaseOffice refusing = office(1, 3, 2);
+        LampLeaseOffice refusing = Offices.with(1, 3, 2);
         refusing.lease(0, 0, 24);
         refusing.lease(0, 1, 14);
         refusing.requestRenewal(0, 1);
@@ -1080,8 +1048,8 @@ final class PromisesTest {
     }
 
     private static void promise52And53SaveAndRestore() {
-        LampLeaseOffice office = office(1, 2, 1);
-        Check.due("53 nothing saved", STATE, office::restore);
+        LampLeaseOffice office = Offices.with(1, 2, 1);
+        Check.due("53 nothing saved", Due.STATE, office::restore);
         office.addOil(50);
         office.lease(0, 0, 5);
         office.requestRenewal(0, 3);
@@ -1089,9 +1057,9 @@ final class PromisesTest {
         office.passHours(20);
         office.addShip();
         office.addLamp(3);
-        output(office);
-        run(office, "oil x");
-        run(office, "drop 1");
+        Offices.output(office);
+        Offices.run(office, "oil x");
+        Offices.run(office, "drop 1");
         office.feed('s');
         Check.same("53 lamps", 2, office.restore());
         Check.same("53 ships", 1, office.shipCount());
@@ -1104,7 +1072,7 @@ final class PromisesTest {
         Check.same("53 office", 10, office.officeCoins());
         Check.same("53 bright hours", 0, office.brightHours(0));
         Check.same("53 nothing to undo", 0, office.undoCount());
-        Check.due("53 no undo", STATE, office::undo);
+        Check.due("53 no undo", Due.STATE, office::undo);
         Check.same("53 the output stays", '1', office.outputChar(2));
         Check.same("53 the error position stays", 4, office.errorPosition());
         Check.same("53 the reason stays", 'n', office.failureReason());

@@ -1,13 +1,17 @@
 /** Long runs of mixed calls, each of whose answers the class and the model must share. */
 final class RandomRunsTest {
-    private static final int RUNS = 120;
-    private static final int CALLS = 300;
+    private static final int RUNS = 3000;
+    // The document promises nothing of an object that has been called more often.
+    private static final int MOST_CALLS = 512;
+    // Of all questions between two changes a few are asked, so that many changes can be made.
+    private static final int QUESTIONS_FOR_ONE = 60;
     private static final String[] COMMANDS = {"ship", "lamp ", "oil ", "lease ", "renew ", "drop ",
         "wait", "wait "};
     private static final String SIGNS = "shiplamorednwtv;; 0123456789\u20acS";
 
     // A generator of its own, so that every run can be repeated.
     private static long seed = 20;
+    private static int calls = 0;
 
     public static void main(String[] args) {
         for (int run = 0; run < RUNS && Check.wrongAnswers() == 0; run++) {
@@ -30,15 +34,25 @@ final class RandomRunsTest {
     }
 
     private static void both(String call, Check.Call model, Check.Call office) {
-        Check.same(call, Check.outcome(model), Check.outcome(office));
+        if (calls < MOST_CALLS) {
+            calls++;
+            Check.same(call, Check.outcome(model), Check.outcome(office));
+        }
+    }
+
+    private static void ask(String call, Check.Call model, Check.Call office) {
+        if (below(QUESTIONS_FOR_ONE) == 0) {
+            both(call, model, office);
+        }
     }
 
     private static void oneRun(int run) {
         LampLeaseOffice office = new LampLeaseOffice();
         Model model = new Model();
         int undoing = below(3) * 4;
-        for (int call = 0; call < CALLS && Check.wrongAnswers() == 0; call++) {
-            String where = "run " + run + ", call " + call + ": ";
+        calls = 0;
+        while (calls < MOST_CALLS && Check.wrongAnswers() == 0) {
+            String where = "run " + run + ", call " + calls + ": ";
             int kind = below(100);
             if (kind < 80) {
                 change(where, kind, model, office);
@@ -123,63 +137,61 @@ final class RandomRunsTest {
     }
 
     private static void compare(String where, Model model, LampLeaseOffice office) {
-        both(where + "hour", () -> model.now.hour(), office::hour);
-        both(where + "shipCount", () -> model.now.ships().size(), office::shipCount);
-        both(where + "lampCount", () -> model.now.lamps().size(), office::lampCount);
-        both(where + "leasedLamps", () -> model.leasedLamps().size(), office::leasedLamps);
-        both(where + "oil", () -> model.now.oil(), office::oil);
-        both(where + "consumption", model::consumption, office::consumption);
-        both(where + "hoursOfOil", model::hoursOfOil, office::hoursOfOil);
-        both(where + "hoursOfOilByEnds", model::hoursOfOil, office::hoursOfOilByEnds);
-        both(where + "brightNext", model::brightNext, office::brightNext);
-        both(where + "mostBright", model::mostBright, office::mostBright);
-        both(where + "mostBrightBySums", model::mostBright, office::mostBrightBySums);
-        both(where + "requestCount", () -> model.now.requests().size(), office::requestCount);
-        both(where + "refusedRenewals", () -> model.now.refused(), office::refusedRenewals);
-        both(where + "officeCoins", () -> model.now.office(), office::officeCoins);
-        both(where + "meanCoins", model::meanCoins, office::meanCoins);
-        both(where + "leasedShare", model::leasedShare, office::leasedShare);
-        both(where + "isConsistent", () -> true, office::isConsistent);
-        both(where + "errorPosition", model::errorPosition, office::errorPosition);
-        both(where + "failedCommand", model::failedCommand, office::failedCommand);
-        both(where + "failureReason", model::failureReason, office::failureReason);
-        both(where + "undoCount", () -> model.undone.size(), office::undoCount);
+        ask(where + "hour", () -> model.now.hour(), office::hour);
+        ask(where + "shipCount", () -> model.now.ships().size(), office::shipCount);
+        ask(where + "lampCount", () -> model.now.lamps().size(), office::lampCount);
+        ask(where + "leasedLamps", () -> model.leasedLamps().size(), office::leasedLamps);
+        ask(where + "oil", () -> model.now.oil(), office::oil);
+        ask(where + "consumption", model::consumption, office::consumption);
+        ask(where + "hoursOfOil", model::hoursOfOil, office::hoursOfOil);
+        ask(where + "hoursOfOilByEnds", model::hoursOfOil, office::hoursOfOilByEnds);
+        ask(where + "brightNext", model::brightNext, office::brightNext);
+        ask(where + "mostBright", model::mostBright, office::mostBright);
+        ask(where + "mostBrightBySums", model::mostBright, office::mostBrightBySums);
+        ask(where + "requestCount", () -> model.now.requests().size(), office::requestCount);
+        ask(where + "refusedRenewals", () -> model.now.refused(), office::refusedRenewals);
+        ask(where + "officeCoins", () -> model.now.office(), office::officeCoins);
+        ask(where + "meanCoins", model::meanCoins, office::meanCoins);
+        ask(where + "leasedShare", model::leasedShare, office::leasedShare);
+        ask(where + "isConsistent", () -> true, office::isConsistent);
+        ask(where + "errorPosition", model::errorPosition, office::errorPosition);
+        ask(where + "failedCommand", model::failedCommand, office::failedCommand);
+        ask(where + "failureReason", model::failureReason, office::failureReason);
+        ask(where + "undoCount", () -> model.undone.size(), office::undoCount);
         for (int ship = -1; ship <= 6; ship++) {
             compareShip(where, ship, model, office);
         }
         for (int lamp = -1; lamp <= 8; lamp++) {
             compareLamp(where, lamp, model, office);
         }
-        if (below(3) == 0) {
-            both(where + "writeLamps", model::writeLamps, office::writeLamps);
-        }
+        ask(where + "writeLamps", model::writeLamps, office::writeLamps);
         for (int at = -1; at <= model.output.length(); at++) {
             int index = at;
-            both(where + "outputChar", () -> model.outputChar(index), () -> office.outputChar(index));
+            ask(where + "outputChar", () -> model.outputChar(index), () -> office.outputChar(index));
         }
     }
 
     private static void compareShip(String where, int ship, Model model, LampLeaseOffice office) {
-        both(where + "coins", () -> model.ship(ship).coins(), () -> office.coins(ship));
-        both(where + "finesPaid", () -> model.ship(ship).fines(), () -> office.finesPaid(ship));
-        both(where + "darkHours", () -> model.ship(ship).darkHours(), () -> office.darkHours(ship));
-        both(where + "demand", () -> model.demand(ship), () -> office.demand(ship));
-        both(where + "leasesOf", () -> model.leasesOf(ship), () -> office.leasesOf(ship));
-        both(where + "share", () -> model.share(ship), () -> office.share(ship));
-        both(where + "shareByRank", () -> model.share(ship), () -> office.shareByRank(ship));
-        both(where + "shipByFines", () -> model.shipByFines(ship), () -> office.shipByFines(ship));
+        ask(where + "coins", () -> model.ship(ship).coins(), () -> office.coins(ship));
+        ask(where + "finesPaid", () -> model.ship(ship).fines(), () -> office.finesPaid(ship));
+        ask(where + "darkHours", () -> model.ship(ship).darkHours(), () -> office.darkHours(ship));
+        ask(where + "demand", () -> model.demand(ship), () -> office.demand(ship));
+        ask(where + "leasesOf", () -> model.leasesOf(ship), () -> office.leasesOf(ship));
+        ask(where + "share", () -> model.share(ship), () -> office.share(ship));
+        ask(where + "shareByRank", () -> model.share(ship), () -> office.shareByRank(ship));
+        ask(where + "shipByFines", () -> model.shipByFines(ship), () -> office.shipByFines(ship));
     }
 
     private static void compareLamp(String where, int lamp, Model model, LampLeaseOffice office) {
-        both(where + "level", () -> model.lamp(lamp).level(), () -> office.level(lamp));
-        both(where + "isLeased", () -> model.lamp(lamp).leased(), () -> office.isLeased(lamp));
-        both(where + "lessee", () -> model.lessee(lamp), () -> office.lessee(lamp));
-        both(where + "endHour", () -> model.endHour(lamp), () -> office.endHour(lamp));
-        both(where + "brightHours", () -> model.lamp(lamp).brightHours(), () -> office.brightHours(lamp));
-        both(where + "wasBright", () -> model.lamp(lamp).bright(), () -> office.wasBright(lamp));
-        both(where + "lampByEnd", () -> model.lampByEnd(lamp), () -> office.lampByEnd(lamp));
-        both(where + "requestedLamp", () -> model.request(lamp).lamp(), () -> office.requestedLamp(lamp));
-        both(where + "requestedHours", () -> model.request(lamp).hours(),
+        ask(where + "level", () -> model.lamp(lamp).level(), () -> office.level(lamp));
+        ask(where + "isLeased", () -> model.lamp(lamp).leased(), () -> office.isLeased(lamp));
+        ask(where + "lessee", () -> model.lessee(lamp), () -> office.lessee(lamp));
+        ask(where + "endHour", () -> model.endHour(lamp), () -> office.endHour(lamp));
+        ask(where + "brightHours", () -> model.lamp(lamp).brightHours(), () -> office.brightHours(lamp));
+        ask(where + "wasBright", () -> model.lamp(lamp).bright(), () -> office.wasBright(lamp));
+        ask(where + "lampByEnd", () -> model.lampByEnd(lamp), () -> office.lampByEnd(lamp));
+        ask(where + "requestedLamp", () -> model.request(lamp).lamp(), () -> office.requestedLamp(lamp));
+        ask(where + "requestedHours", () -> model.request(lamp).hours(),
                 () -> office.requestedHours(lamp));
     }
 }
