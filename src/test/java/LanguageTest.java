@@ -14,6 +14,9 @@ final class LanguageTest {
         "\\bstatic \\{", "[^\\x01-\\x7f]"};
     private static final Pattern METHOD = Pattern.compile(
             "(?m)^( +)(?:[\\w\\[\\]]+ )+\\w+\\([^;{}]*\\)[^;{}]*\\{\n(?s:.*?)^\\1\\}");
+    private static final Pattern CONSTRUCTOR = Pattern.compile(
+            "(?m)^( +)(?:public )?[A-Z]\\w*\\([^;{}]*\\) \\{\n(?s:.*?)^\\1\\}");
+    private static final Pattern MADE = Pattern.compile("(?m)^.*\\bnew\\b.*$");
     private static final int MOST_LINES = 60;
     private static final int MOST_CLASSES = 12;
 
@@ -30,6 +33,7 @@ final class LanguageTest {
                 count("\\b(class|enum|interface|record) \\w+ ", code) <= MOST_CLASSES);
         Check.same("static fields are final", 0L,
                 count("(?m)^ +(private )?static (?!final)[^(]*[=;]", code));
+        onlyConstructorsMakeObjects(code);
         Matcher methods = METHOD.matcher(code);
         int found = 0;
         while (methods.find()) {
@@ -40,6 +44,21 @@ final class LanguageTest {
         }
         Check.same("methods were found", true, found > 100);
         Check.finish();
+    }
+
+    /** All calls of a run live in one room, so a call makes no object but its exception. */
+    private static void onlyConstructorsMakeObjects(String code) {
+        Matcher made = MADE.matcher(CONSTRUCTOR.matcher(code).replaceAll(""));
+        int thrown = 0;
+        while (made.find()) {
+            String line = made.group().trim();
+            boolean exception = line.startsWith("throw new ");
+            thrown += exception ? 1 : 0;
+            Check.same("made by a call: " + line, true, exception || line.startsWith("final "));
+        }
+        Check.same("exceptions were found", true, thrown > 10);
+        Check.same("constructors throw nothing", 0L, CONSTRUCTOR.matcher(code).results()
+                .filter(constructor -> constructor.group().contains("throw")).count());
     }
 
     private static long count(String pattern, String text) {
